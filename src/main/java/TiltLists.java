@@ -176,8 +176,8 @@ public final class TiltLists {
         }
         int sheet = Jousts.sheetOf(joust, side);
         switch (what) {
-            case 0: return Jousts.scoreIn(jousts.leastStanding(sheet));
-            case 1: return Jousts.scoreIn(jousts.greatestStanding(sheet));
+            case 0: return Ordinances.scoreIn(jousts.leastStanding(sheet));
+            case 1: return Ordinances.scoreIn(jousts.greatestStanding(sheet));
             case 2: return jousts.countOf(sheet, GAP);
             default: return isWithin(what, 3, 2 + STROKES) ? jousts.countOf(sheet, what - 3) : NOTHING;
         }
@@ -440,6 +440,9 @@ public final class TiltLists {
      * draft: a text is read into it, and it counts only once it is kept.
      */
     private static final class Ordinances {
+        /** More than a sheet can have of one stroke: see standingOf. */
+        private static final int TIE_SPAN = COURSES + 1;
+
         private final int[] worths = new int[MOST_ORDINANCES * STROKES];
         private final int[] ties = new int[MOST_ORDINANCES];
         private int size;
@@ -471,6 +474,36 @@ public final class TiltLists {
 
         int tieOf(int ordinance) {
             return ties[ordinance];
+        }
+
+        /**
+         * What a stroke brings a side: its worth, and as a smaller unit whether it
+         * is the one behind the !. The greater of two sums of these is then the
+         * winner's, as the count behind the ! matters only where scores are alike.
+         */
+        int standingOf(int ordinance, int stroke) {
+            int counted = stroke != 0 && stroke == ties[ordinance] ? 1 : 0;
+            return worths[ordinance * STROKES + stroke] * TIE_SPAN + counted;
+        }
+
+        static int scoreIn(int standing) {
+            return Math.floorDiv(standing, TIE_SPAN);
+        }
+
+        int leastStanding(int ordinance) {
+            int least = 0;
+            for (int stroke = 1; stroke < STROKES; stroke++) {
+                least = Math.min(least, standingOf(ordinance, stroke));
+            }
+            return least;
+        }
+
+        int greatestStanding(int ordinance) {
+            int greatest = 0;
+            for (int stroke = 1; stroke < STROKES; stroke++) {
+                greatest = Math.max(greatest, standingOf(ordinance, stroke));
+            }
+            return greatest;
         }
 
         void clearDraft() {
@@ -629,8 +662,6 @@ public final class TiltLists {
      */
     private static final class Jousts {
         private static final int SHEETS = MOST_JOUSTS * SIDES;
-        /** More than a sheet can have of one stroke: see standingOf. */
-        private static final int TIE_SPAN = COURSES + 1;
 
         private final Roll roll;
         private final Ordinances ordinances;
@@ -701,37 +732,12 @@ public final class TiltLists {
             return count;
         }
 
-        /**
-         * What a stroke brings a side: its worth, and as a smaller unit whether it
-         * is the one behind the !. The greater of two sums of these is then the
-         * winner's, as the count behind the ! matters only where scores are alike.
-         */
-        private int standingOf(int ordinance, int stroke) {
-            int tie = ordinances.tieOf(ordinance);
-            int counted = stroke != 0 && stroke == tie ? 1 : 0;
-            return ordinances.worthOf(ordinance, stroke) * TIE_SPAN + counted;
-        }
-
-        static int scoreIn(int standing) {
-            return Math.floorDiv(standing, TIE_SPAN);
-        }
-
         int leastStanding(int sheet) {
-            int ordinance = laws[sheet / SIDES];
-            int least = 0;
-            for (int stroke = 1; stroke < STROKES; stroke++) {
-                least = Math.min(least, standingOf(ordinance, stroke));
-            }
-            return standingWith(sheet, least);
+            return standingWith(sheet, ordinances.leastStanding(laws[sheet / SIDES]));
         }
 
         int greatestStanding(int sheet) {
-            int ordinance = laws[sheet / SIDES];
-            int greatest = 0;
-            for (int stroke = 1; stroke < STROKES; stroke++) {
-                greatest = Math.max(greatest, standingOf(ordinance, stroke));
-            }
-            return standingWith(sheet, greatest);
+            return standingWith(sheet, ordinances.greatestStanding(laws[sheet / SIDES]));
         }
 
         private int standingWith(int sheet, int ofGap) {
@@ -739,7 +745,7 @@ public final class TiltLists {
             int sum = 0;
             for (int course = 0; course < COURSES; course++) {
                 int stroke = strokeIn(sheet, course);
-                sum += stroke == GAP ? ofGap : standingOf(ordinance, stroke);
+                sum += stroke == GAP ? ofGap : ordinances.standingOf(ordinance, stroke);
             }
             return sum;
         }

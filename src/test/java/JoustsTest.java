@@ -6,6 +6,8 @@ public final class JoustsTest {
         joust();
         refusalsInOrder();
         ordinanceStays();
+        sixOrdinances();
+        thirtyJousts();
         stroke();
         copy();
         copyOverItself();
@@ -82,6 +84,41 @@ public final class JoustsTest {
         x.arms(1, 0, 0, 0);
         CHECK.due("a knight who came to yield", x.of(1, 4), 0);
         CHECK.due("has its joust still", x.stroke(0, 1, 0, 1), 6);
+    }
+
+    private static void sixOrdinances() {
+        TiltLists x = Check.withKnights(2);
+        for (int i = 0; i < 6; i++) {
+            CHECK.due("ordinance " + i, Check.ordain(x, "f" + (i + 1) + "b-" + (6 - i)), i);
+            CHECK.due("its joust", x.joust(0, 1), i);
+        }
+        for (int i = 0; i < 6; i++) {
+            CHECK.due("LOW by ordinance " + i, x.sheet(i, 1, 0), -6 * (6 - i));
+            CHECK.due("HIGH by ordinance " + i, x.sheet(i, 1, 1), 6 * (i + 1));
+        }
+    }
+
+    private static void thirtyJousts() {
+        TiltLists x = Check.withKnights(3);
+        Check.ordain(x, "b1");
+        for (int i = 0; i < 30; i++) {
+            x.joust(0, 1);
+            Check.tell(x, i, 0, "111114");
+        }
+        CHECK.due("best() before any wins", x.best(), 2);
+        for (int i = 0; i < 30; i++) {
+            Check.tell(x, i, 1, "000000");
+        }
+        CHECK.due("won(0) of 30", x.won(0), 30);
+        CHECK.due("won(1) of 30", x.won(1), 0);
+        CHECK.due("best() of 30", x.best(), 0);
+        CHECK.due("owes(0) of 30", x.owes(0), 0);
+        CHECK.due("owes(1) of 30", x.owes(1), 300);
+        CHECK.due("pay(29, 1, 9)", x.pay(29, 1, 9), 1);
+        CHECK.due("purse(0) of 30", x.purse(0), 9);
+        CHECK.due("purse(1) of 30", x.purse(1), -9);
+        CHECK.due("many(8) of 30", x.many(8), 291);
+        CHECK.due("many(9) of 30", x.many(9), 9);
     }
 
     private static void stroke() {
@@ -223,6 +260,8 @@ public final class JoustsTest {
         winsBy("b1h2f-3", "222226", "222220", 1, 1);
         winsBy("b-1h-2l-1u-1f-1", "111111", "666666", 1, 1);
         winsBy("b-1h-2l-1u-1f-1", "000000", "666661", 2, 0);
+        winsBy("b5h5l5u5f5", "666666", "000000", 1, 0);
+        winsBy("b-5h-5l-5u-5f-5", "000000", "666666", 1, 0);
         TiltLists x = withJoust("b1");
         CHECK.due("joust 1", x.wins(1, 0), TiltLists.NUMBER);
         CHECK.due("side 2", x.wins(0, 2), TiltLists.NUMBER);

@@ -10,6 +10,7 @@ public final class KnightsTest {
         of();
         near();
         yielding();
+        yieldingOfAll();
         CHECK.end();
     }
 
@@ -177,5 +178,19 @@ public final class KnightsTest {
         CHECK.due("many(7) then", x.many(7), 2);
         CHECK.due("arms(2, 5, 9, 5)", x.arms(2, 5, 9, 5), 1);
         CHECK.due("many(7) at last", x.many(7), 3);
+    }
+
+    private static void yieldingOfAll() {
+        TiltLists x = new TiltLists();
+        for (int i = 0; i < 14; i++) {
+            x.knight(i == 9 ? 3 : 2, 1, 7, i % 6);
+        }
+        for (int i = 0; i < 14; i++) {
+            CHECK.due("of(" + i + ", 5)", x.of(i, 5), i == 0 ? 9 : i == 9 ? -2 : 0);
+            CHECK.due("of(" + i + ", 4)", x.of(i, 4), i == 9 ? 1 : 0);
+        }
+        CHECK.due("many(7)", x.many(7), 1);
+        x.arms(0, 2, 2, 2);
+        CHECK.due("many(7) with the first one", x.many(7), 2);
     }
 }
