@@ -1,7 +1,7 @@
 /**
  * The lists of a tournament: knights and their arms, ordinances, jousts with
- * their ransoms, challenges and the camp. A call that can't be answered gives
- * one of the constants below 0 and changes nothing.
+ * their ransoms, challenges and the camp. A refused call answers one of the
+ * constants (FAULT less a place, for a text) and changes nothing.
  */
 public final class TiltLists {
     public static final int NUMBER = -1;

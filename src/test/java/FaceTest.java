@@ -15,7 +15,7 @@ import java.util.regex.Pattern;
 public final class FaceTest {
     private static final Check CHECK = new Check("FaceTest");
 
-    private static final String[] METHODS = {
+    static final String[] METHODS = {
         "knight IIII", "arms IIII", "rank II", "of II", "near ", "feed I", "ordain ", "scrap ", "force I", "worth II",
         "joust II", "stroke IIII", "copy IIIIII", "sheet III", "wins II", "won I", "best ", "owes I", "pay III",
         "purse I", "challenge II", "withdraw ", "turn I", "turns ", "feud IIZ", "tent I", "many I"};
@@ -31,7 +31,8 @@ public final class FaceTest {
         constants(type);
         constructors(type);
         privateNames(type);
-        words();
+        source();
+        members();
         CHECK.end();
     }
 
@@ -96,14 +97,65 @@ public final class FaceTest {
         }
     }
 
-    private static void words() throws Exception {
+    /** Rules 1, 3 to 6 and 11, as far as words and lines show them. */
+    private static void source() throws Exception {
         String source = Files.readString(Path.of("src/main/java/TiltLists.java"));
         String bare = source.replaceAll("(?s)/\\*.*?\\*/", "").replaceAll("//[^\n]*", "");
-        Pattern forbidden = Pattern.compile(
-            "\\b(throw|throws|try|catch|finally|synchronized|assert|import|package|native|volatile|Exact)\\b|->|::");
-        Matcher m = forbidden.matcher(bare);
+        none("forbidden", bare, "\\b(throw|throws|try|catch|finally|synchronized|assert|import|package|native"
+            + "|volatile|double|float|\\w*Exact)\\b|->|::|\\[\\]\\[\\]");
+        none("no part of the library that may be used", bare, "\\b(?:Math|Integer|System|Arrays|String|Long)\\."
+            + "(?!(?:min|max|abs|floorDiv|floorMod|bitCount|compare|arraycopy)\\b)\\w+");
+        TreeSet<String> known = new TreeSet<>(Arrays.asList("TiltLists", "Math", "Integer", "System"));
+        for (Class<?> inner : TiltLists.class.getDeclaredClasses()) {
+            known.add(inner.getSimpleName());
+        }
+        Matcher types = Pattern.compile("\\b[A-Z]\\w*[a-z]\\w*\\b").matcher(bare);
+        while (types.find()) {
+            CHECK.due("the class " + types.group() + " is known", known.contains(types.group()) ? 1 : 0, 1);
+        }
+        // What the README says: rows are made with the object, and no call makes another one.
+        none("made by a call", bare, "(?m)^(?! *private final int\\[\\] \\w+ = new int| {8}\\w+ = new [A-Z]).*\\bnew\\b.*$");
+        methodLengths(source.split("\n"));
+    }
+
+    private static void none(String what, String text, String pattern) {
+        Matcher m = Pattern.compile(pattern).matcher(text);
         while (m.find()) {
-            CHECK.due("the word " + m.group() + " in the source", 1, 0);
+            CHECK.due(what + ": " + m.group(), 1, 0);
+        }
+        CHECK.due(what, 0, 0);
+    }
+
+    /** Rule 11: "Methods stay short (some sixty lines)"; a method's braces stand at one indent. */
+    private static void methodLengths(String[] lines) {
+        for (int i = 0; i < lines.length; i++) {
+            if (lines[i].matches(" {4}(?: {4})?(?! )[^=/*]*\\(.*\\) \\{")) {
+                String end = lines[i].replaceAll("\\S.*", "") + "}";
+                int length = 1;
+                while (i + length < lines.length && !lines[i + length].equals(end)) {
+                    length++;
+                }
+                CHECK.due("lines of " + lines[i].trim() + " " + length, length <= 60 ? 1 : 0, 1);
+            }
+        }
+    }
+
+    /** Rules 5 and 11: static fields are final ones of numbers or texts; few fields, few parameters. */
+    private static void members() {
+        List<Class<?>> all = new ArrayList<>(Arrays.asList(TiltLists.class.getDeclaredClasses()));
+        all.add(TiltLists.class);
+        for (Class<?> type : all) {
+            int fields = 0;
+            for (Field f : type.getDeclaredFields()) {
+                boolean isStatic = Modifier.isStatic(f.getModifiers());
+                fields += isStatic ? 0 : 1;
+                CHECK.due(f + " is final if it is static", !isStatic || Modifier.isFinal(f.getModifiers()) ? 1 : 0, 1);
+                CHECK.due(f + " is a number if it is static", !isStatic || f.getType().isPrimitive() ? 1 : 0, 1);
+            }
+            CHECK.due("fields of " + type, fields <= 20 ? 1 : 0, 1);
+            for (Method m : type.getDeclaredMethods()) {
+                CHECK.due("parameters of " + m, m.getParameterCount() <= 7 ? 1 : 0, 1);
+            }
         }
     }
 }
